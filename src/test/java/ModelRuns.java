@@ -38,8 +38,9 @@ public final class ModelRuns {
         Model model = new Model();
         List<String> trace = new ArrayList<>();
         int flavour = run % 4;
+        List<int[]> opening = flavour == 1 || flavour == 2 ? filledReels() : List.of();
         for (int call = 0; call < CALLS; call++) {
-            int[] a = draw(flavour, model);
+            int[] a = call < opening.size() ? opening.get(call) : draw(flavour, model);
             long got = ask(house, a);
             long want = model.ask(a);
             trace.add(call + ": " + java.util.Arrays.toString(a) + " answered " + got + ", due is " + want);
@@ -53,13 +54,28 @@ public final class ModelRuns {
         return true;
     }
 
+    /** Without these calls hardly a run would come to products that are not 0. */
+    private static List<int[]> filledReels() {
+        List<int[]> calls = new ArrayList<>();
+        int dishes = pick(2, 6);
+        for (int d = 0; d < dishes; d++) {
+            int form = pick(0, 2);
+            int items = pick(5, 100);
+            calls.add(new int[] {0, pick(-100, 100), pick(-100, 100)});
+            calls.add(new int[] {2, d, form, items});
+            for (int n = 0; n < 15; n++) calls.add(new int[] {4, d, form, pick(0, Math.min(items - 1, 30)), valueFor()});
+            calls.add(new int[] {1, d, pick(0, 1) * pick(0, 30), pick(0, 1) == 0 ? pick(1, 9) : -pick(1, 9)});
+        }
+        return calls;
+    }
+
     /** The number of a call, by its place in the face, and its arguments. */
     private static int[] draw(int flavour, Model m) {
         int[][] flavours = {
             {0, 1, 2, 3, 4, 4, 4, 4, 5, 6, 7, 8, 9, 10, 11, 12, 13, 14, 15, 16, 17, 18, 19, 20, 21, 22, 23, 24, 25, 26,
                 27, 28, 29, 30},
-            {0, 1, 2, 2, 3, 4, 4, 4, 4, 4, 4, 4, 4, 5, 6, 6, 7, 8, 9, 10, 11, 12, 13, 29},
-            {0, 1, 2, 4, 4, 4, 4, 4, 4, 4, 14, 15, 15, 16, 17, 17, 17, 18, 18, 19, 20, 20, 21, 21, 21, 22, 23, 23, 30},
+            {1, 2, 3, 4, 4, 4, 4, 4, 4, 4, 4, 5, 5, 6, 6, 7, 7, 8, 8, 9, 10, 11, 11, 12, 12, 13, 13, 29},
+            {1, 4, 4, 4, 14, 14, 15, 15, 16, 17, 17, 17, 18, 18, 19, 20, 20, 21, 21, 21, 21, 22, 22, 23, 30},
             {24, 25, 25, 25, 25, 25, 25, 26, 27, 27, 27, 28, 28, 28, 28, 29, 30}
         };
         int[] these = flavours[flavour];
@@ -74,12 +90,12 @@ public final class ModelRuns {
         switch (call) {
             case 0: return new int[] {0, near(-100, 100), near(-100, 100)};
             case 1: return new int[] {1, d, pick(0, 1) == 0 ? near(0, 30) : near(0, 5), near(-9, 9)};
-            case 2: return new int[] {2, d, pick(0, 2) > 0 ? 2 : near(0, 2), n};
+            case 2: return new int[] {2, pick(0, 2) == 0 ? d : -1, pick(0, 2) > 0 ? 2 : near(0, 2), n};
             case 3: return new int[] {3, pick(0, 3) == 0 ? d : -1};
             case 4: return new int[] {4, d, pick(0, 9) == 0 ? near(0, 2) : formOf(m, d), n, valueFor()};
             case 5: return new int[] {5, d, pick(0, 9) == 0 ? near(0, 2) : formOf(m, d), n};
             case 6: return new int[] {6, d, near(0, 12), e, near(0, 12), near(0, 12)};
-            case 7: return new int[] {7, d, pick(0, 1) == 0 ? near(0, 20) : near(0, 99), near(0, 99)};
+            case 7: return new int[] {7, d, pick(0, 1) == 0 ? near(0, 20) : near(0, 99), pick(0, 2) > 0 ? near(0, 20) : near(0, 99)};
             case 9: case 10: case 11: return new int[] {call, d, e};
             case 12: return new int[] {12, d, e, f};
             case 13: return new int[] {13, d, e, f, g};

@@ -306,6 +306,9 @@ public final class PromiseTests {
         h.flag(1, 7, 8);
         due("flagged at the same ticks", h.ticks(0, 1), 13);
         due("no findings", h.count(6), 0);
+        DishHouse g = dishes(6, 1);
+        due("ticks(5, 6) of six", g.ticks(5, 6), -2);
+        due("ticks(6, 5) of six", g.ticks(6, 5), -2);
     }
 
     private static void product() {
@@ -323,6 +326,14 @@ public final class PromiseTests {
         due("one twice", h.product(0, 0), 4L * (4 + 250000 + 250000));
         h.lose(1);
         due("a lost one", h.product(0, 1), 0);
+        DishHouse f = dishes(2, 3);
+        fill(f, 0, 1, 2, 3);
+        fill(f, 1, 4, 5, 6);
+        f.flag(0, 1, 1);
+        due("flagged for one", f.product(0, 1), 4 + 18);
+        due("flagged for the other", f.product(1, 0), 4 + 18);
+        f.flag(1, 2, 2);
+        due("each flagged for one", f.product(0, 1), 4);
         DishHouse g = dishes(1, 100);
         for (int i = 0; i < 100; i++) g.put(0, 2, i, 1000);
         g.tune(0, 0, 9);
@@ -350,6 +361,12 @@ public final class PromiseTests {
         h.tune(1, 0, -1);
         due("gains below 0: the least is 0", h.delay(0, 1), 0);
         due("it changes nothing", h.product(0, 1), 0);
+        DishHouse f = dishes(2, 3);
+        fill(f, 0, 1);
+        fill(f, 1, 3, 4, 2);
+        due("a delay of 1", f.delay(0, 1), 1);
+        f.put(1, 2, 0, 5);
+        due("a delay of 0", f.delay(0, 1), 0);
         DishHouse g = dishes(1, 8);
         fill(g, 0, 1, 0, 0, 9, 0, 0, -9, 0);
         g.tune(0, 3, 1);
@@ -369,8 +386,11 @@ public final class PromiseTests {
         due("alike", h.three(0, 0, 1), -2);
         due("alike", h.three(0, 1, 1), -2);
         due("alike", h.three(0, 1, 0), -2);
-        due("no such one", h.three(0, 1, 4), -2);
-        due("no such one", h.three(-1, 1, 2), -2);
+        for (int none : new int[] {-1, 4, 5}) {
+            due("no such one", h.three(none, 1, 2), -2);
+            due("no such one", h.three(0, none, 2), -2);
+            due("no such one", h.three(0, 1, none), -2);
+        }
         due("nothing", h.three(0, 1, 2), 0);
         for (int d = 0; d < 4; d++) fill(h, d, 500, 500, 500);
         h.tune(0, 0, 9);
@@ -395,8 +415,12 @@ public final class PromiseTests {
     private static void four() {
         promise = 15;
         DishHouse h = dishes(5, 3);
-        due("no such one", h.four(0, 1, 2, 5), -2);
-        due("no such one", h.four(0, 1, -1, 3), -2);
+        for (int none : new int[] {-1, 5, 6}) {
+            due("no such one", h.four(none, 1, 2, 3), -2);
+            due("no such one", h.four(0, none, 2, 3), -2);
+            due("no such one", h.four(0, 1, none, 3), -2);
+            due("no such one", h.four(0, 1, 2, none), -2);
+        }
         for (int a = 0; a < 4; a++) {
             for (int b = a + 1; b < 4; b++) {
                 int[] n = {0, 1, 2, 3};
@@ -536,6 +560,7 @@ public final class PromiseTests {
         h.put(0, 0, 0, 2);
         h.put(1, 0, 0, 1);
         h.board(0);
+        due("at(0, 0)", h.at(0, 0), 2000);
         due("at(1, 0)", h.at(1, 0), 1848);
         due("at(0, 1)", h.at(0, 1), 766);
         due("at(15, 15)", h.at(15, 15), 0);
@@ -612,10 +637,32 @@ public final class PromiseTests {
         DishHouse g = new DishHouse();
         g.board(1);
         due("no beam", g.take(100, 50), 0);
+        takeAcross();
         fillParts();
     }
 
-    /** 200 parts: with windows of one cell, whose beams are not upright on one another. */
+    /** A peak away from the first row and column; each cell of the board that is left is looked at. */
+    private static void takeAcross() {
+        DishHouse h = slanted();
+        h.point(6, 3, 1000);
+        h.board(1);
+        h.window(6, 3, 6, 3);
+        due("take(99, 1)", h.take(99, 1), 1);
+        due("A", h.part(0, 1), 990);
+        DishHouse g = slanted();
+        g.point(6, 3, 10);
+        g.board(1);
+        int c = 0;
+        for (int y = 0; y < 16; y++) {
+            for (int x = 0; x < 16; x++) due("cell " + c++, h.at(x, y), g.at(x, y));
+        }
+        due("back()", h.back(), 0);
+        due("at(6, 3)", h.at(6, 3), 1000000);
+        due("at(0, 0)", h.at(0, 0), -924000);
+        due("at(7, 9)", h.at(7, 9), 100 * g.at(7, 9));
+    }
+
+    /** 200 parts: with so small a share the board lasts long enough. */
     private static void fillParts() {
         DishHouse h = dishes(6, 100);
         for (int d = 0; d < 6; d++) {
@@ -803,6 +850,16 @@ public final class PromiseTests {
                 due("not done", h.told(1), t[0]);
                 due("not done", h.told(5), t[1]);
             }
+        }
+        DishHouse h = new DishHouse();
+        int[] goals = {100, 130, 350, 20, 200, 19};
+        int[] minutes = {17, 5, 24, 5, 30, 30};
+        int sum = 0;
+        for (int n = 0; n < goals.length; n++) {
+            h.order(1, goals[n], 0);
+            sum += minutes[n];
+            due("night", h.night(1000), 0);
+            due("from goal to goal " + n, h.told(5), sum);
         }
     }
 
