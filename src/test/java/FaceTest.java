@@ -32,6 +32,7 @@ public final class FaceTest {
 
     public static void main(String[] args) throws Exception {
         face();
+        constants();
         names();
         words();
         System.out.println(wrong == 0 ? "FaceTest: all as due" : "FaceTest: " + wrong + " wrong");
@@ -49,6 +50,13 @@ public final class FaceTest {
             has.add(told(m));
         }
         due(has.equals(want), "the face is " + has);
+    }
+
+    private static void constants() throws Exception {
+        String[] constants = {"NONE", "BAD", "FULL", "NOT"};
+        for (int n = 0; n < constants.length; n++) {
+            due(DishHouse.class.getField(constants[n]).getInt(null) == -1 - n, constants[n] + " is " + (-1 - n));
+        }
     }
 
     private static String told(Member m) {
