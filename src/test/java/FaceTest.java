@@ -34,6 +34,8 @@ public final class FaceTest {
         face();
         constants();
         names();
+        sizes();
+        lengths();
         words();
         System.out.println(wrong == 0 ? "FaceTest: all as due" : "FaceTest: " + wrong + " wrong");
         if (wrong != 0) System.exit(1);
@@ -92,11 +94,46 @@ public final class FaceTest {
         due(inside.length <= 12, "at most twelve classes");
         for (Class<?> c : inside) {
             due(Modifier.isStatic(c.getModifiers()), c.getName() + " is static");
-            due(c.getDeclaredFields().length <= 40, c.getName() + " has few fields");
+            due(!Modifier.isPublic(c.getModifiers()) && !Modifier.isProtected(c.getModifiers()), c.getName() + " is not open");
             for (java.lang.reflect.Method m : c.getDeclaredMethods()) {
                 due(!open.contains(m.getName()), c.getName() + "." + m.getName() + " bears a public name");
             }
         }
+    }
+
+    /** Rules 5 and 11: fields that are not constants, and parameters. */
+    private static void sizes() {
+        List<Class<?>> all = new ArrayList<>(List.of(DishHouse.class.getDeclaredClasses()));
+        all.add(DishHouse.class);
+        for (Class<?> c : all) {
+            int fields = 0;
+            for (java.lang.reflect.Field f : c.getDeclaredFields()) {
+                boolean isStatic = Modifier.isStatic(f.getModifiers());
+                due(!isStatic || Modifier.isFinal(f.getModifiers()), c.getName() + "." + f.getName() + " is final");
+                if (!isStatic) fields++;
+            }
+            due(fields <= 20, c.getName() + " has " + fields + " fields");
+            for (Member m : members(c)) {
+                if (!(m instanceof java.lang.reflect.Executable e)) continue;
+                due(e.getParameterCount() <= 7, c.getName() + "." + m.getName() + " takes more than seven");
+            }
+        }
+    }
+
+    /** Rule 11: a method ends with the first line that closes it at the depth at which it began. */
+    private static void lengths() throws Exception {
+        List<String> lines = Files.readAllLines(SOURCE);
+        Pattern head = Pattern.compile("(    |        )\\w[^=;]*\\) \\{");
+        int methods = 0;
+        for (int from = 0; from < lines.size(); from++) {
+            Matcher m = head.matcher(lines.get(from));
+            if (!m.matches() || lines.get(from).matches("\\s*(if|for|while|switch) .*")) continue;
+            int to = from;
+            while (to < lines.size() && !lines.get(to).equals(m.group(1) + "}")) to++;
+            due(to < lines.size() && to - from < 60, "long method: " + lines.get(from).trim());
+            methods++;
+        }
+        due(methods > 70, "only " + methods + " methods are seen");
     }
 
     private static void words() throws Exception {
